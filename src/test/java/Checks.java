@@ -1,0 +1,79 @@
+/** What all tests share: they count wrong answers and end with exit code 1 if there was one. */
+final class Checks {
+    static final int TIMER = 0;
+    static final int CONTROLLER = 1;
+    static final int SERIAL = 2;
+
+    static final long COMPARE = 16384;
+    static final long TIME = 49144;
+
+    static final long WAITING = 4096;
+
+    private static int asked = 0;
+    private static int wrong = 0;
+
+    private Checks() {
+    }
+
+    static void same(String what, long got, long due) {
+        asked++;
+        if (got != due) {
+            wrong++;
+            System.out.println(what + ": answered " + got + ", due is " + due);
+        }
+    }
+
+    static void same(String what, boolean got, boolean due) {
+        same(what, got ? 1 : 0, due ? 1 : 0);
+    }
+
+    /** The call must throw an IllegalArgumentException itself, not a class below it. */
+    static void refused(String what, Runnable call) {
+        asked++;
+        String got = "nothing";
+        try {
+            call.run();
+        } catch (RuntimeException e) {
+            got = e.getClass().getSimpleName();
+        }
+        if (!got.equals("IllegalArgumentException")) {
+            wrong++;
+            System.out.println(what + ": threw " + got + ", due is IllegalArgumentException");
+        }
+    }
+
+    static void end() {
+        System.out.println(asked + " answers, " + wrong + " not as due");
+        if (wrong != 0 || asked == 0) {
+            System.exit(1);
+        }
+    }
+
+    static long enables(int context) {
+        return 8192 + 128L * context;
+    }
+
+    static long threshold(int context) {
+        return 2097152 + 4096L * context;
+    }
+
+    static long claim(int context) {
+        return 2097156 + 4096L * context;
+    }
+
+    static long load4(SignalBoard x, long offset) {
+        return x.read(CONTROLLER, offset, 4);
+    }
+
+    static void store4(SignalBoard x, long offset, long v) {
+        x.write(CONTROLLER, offset, 4, v);
+    }
+
+    static long load1(SignalBoard x, long register) {
+        return x.read(SERIAL, register, 1);
+    }
+
+    static void store1(SignalBoard x, long register, long v) {
+        x.write(SERIAL, register, 1, v);
+    }
+}
