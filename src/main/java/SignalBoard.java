@@ -333,7 +333,7 @@ public final class SignalBoard {
     }
 
     private static final class SerialLine {
-        static final int NO_CAUSE = 1;
+        private static final int NO_CAUSE = 1;
         private static final int EMPTIED_CAUSE = 2;
         private static final int BYTE_CAUSE = 4;
         private static final int OVERRUN_CAUSE = 6;

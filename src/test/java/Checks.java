@@ -9,6 +9,9 @@ final class Checks {
 
     static final long WAITING = 4096;
 
+    /** One fault can spoil a great many answers; the first ones tell enough. */
+    private static final int MOST_SHOWN = 100;
+
     private static int asked = 0;
     private static int wrong = 0;
 
@@ -18,8 +21,7 @@ final class Checks {
     static void same(String what, long got, long due) {
         asked++;
         if (got != due) {
-            wrong++;
-            System.out.println(what + ": answered " + got + ", due is " + due);
+            tell(what + ": answered " + got + ", due is " + due);
         }
     }
 
@@ -37,8 +39,14 @@ final class Checks {
             got = e.getClass().getSimpleName();
         }
         if (!got.equals("IllegalArgumentException")) {
-            wrong++;
-            System.out.println(what + ": threw " + got + ", due is IllegalArgumentException");
+            tell(what + ": threw " + got + ", due is IllegalArgumentException");
+        }
+    }
+
+    private static void tell(String text) {
+        wrong++;
+        if (wrong <= MOST_SHOWN) {
+            System.out.println(text);
         }
     }
 

@@ -49,8 +49,12 @@ public final class Promise03ReadTest {
             Checks.same("COMPARE", x.read(Checks.TIMER, at, 8), 0xF0000001E0000002L + h);
             Checks.same("COMPARE lower", x.read(Checks.TIMER, at, 4), 0xE0000002L + h);
             Checks.same("COMPARE upper", x.read(Checks.TIMER, at + 4, 4), 0xF0000001L);
-            Checks.same("COMPARE amid", x.read(Checks.TIMER, at + 4, 8), 0);
-            Checks.same("COMPARE amid", x.read(Checks.TIMER, at + 2, 4), 0);
+            for (int amid = 1; amid < 8; amid++) {
+                Checks.same("COMPARE + " + amid, x.read(Checks.TIMER, at + amid, 8), 0);
+                if (amid != 4) {
+                    Checks.same("COMPARE + " + amid, x.read(Checks.TIMER, at + amid, 4), 0);
+                }
+            }
         }
         Checks.same("COMPARE of none", x.read(Checks.TIMER, Checks.COMPARE + 24, 8), 0);
         Checks.same("before COMPARE", x.read(Checks.TIMER, Checks.COMPARE - 4, 4), 0);

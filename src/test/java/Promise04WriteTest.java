@@ -4,6 +4,7 @@ public final class Promise04WriteTest {
         refusesWrongInput();
         writesTimer();
         writesPlainControllerRegisters();
+        knowsNoContextsBeyond();
         completes();
         completesOnlyWhatIsEnabledAndServed();
         writesPlainSerialRegisters();
@@ -55,10 +56,13 @@ public final class Promise04WriteTest {
             Checks.same("lower half", x.read(Checks.TIMER, at, 8), 0x11223344FEDCBA98L);
             x.write(Checks.TIMER, at + 4, 4, 0x0BADF00D89ABCDEFL);
             Checks.same("upper half", x.read(Checks.TIMER, at, 8), 0x89ABCDEFFEDCBA98L);
-            x.write(Checks.TIMER, at + 4, 8, 0);
-            x.write(Checks.TIMER, at + 2, 4, 0);
-            x.write(Checks.TIMER, at, 2, 0);
-            x.write(Checks.TIMER, at, 1, 0);
+            for (int amid = 0; amid < 8; amid++) {
+                for (int size : new int[] {1, 2, 4, 8}) {
+                    if (size < 4 || amid % size != 0) {
+                        x.write(Checks.TIMER, at + amid, size, 0);
+                    }
+                }
+            }
             Checks.same("others change nothing", x.read(Checks.TIMER, at, 8), 0x89ABCDEFFEDCBA98L);
         }
         x.write(Checks.TIMER, 8, 4, 1);
@@ -85,6 +89,18 @@ public final class Promise04WriteTest {
         Checks.store4(x, Checks.WAITING, 0);
         Checks.store4(x, Checks.WAITING, -1);
         Checks.same("waiting", Checks.load4(x, Checks.WAITING), 4);
+    }
+
+    private static void knowsNoContextsBeyond() {
+        for (int count = 1; count <= 4; count++) {
+            SignalBoard x = new SignalBoard(count);
+            for (int c = 2 * count; c < 12; c++) {
+                Checks.store4(x, Checks.enables(c), -1);
+                Checks.store4(x, Checks.threshold(c), -1);
+                Checks.same("enables beyond", Checks.load4(x, Checks.enables(c)), 0);
+                Checks.same("threshold beyond", Checks.load4(x, Checks.threshold(c)), 0);
+            }
+        }
     }
 
     private static void completes() {
