@@ -48,7 +48,7 @@ public final class ModelTest {
                     case 7: signal(); break;
                     case 8: come(); break;
                     case 9: line(); break;
-                    case 10: counts(); break;
+                    case 10: count(); break;
                     default: pass(); break;
                 }
             }
@@ -88,11 +88,16 @@ public final class ModelTest {
             same("line(" + h + ", " + l + ")", () -> x.line(h, l) ? 1 : 0, () -> m.line(h, l) ? 1 : 0);
         }
 
-        private void counts() {
-            long k = random.nextInt(4) == 0 ? odd() : random.nextInt(40);
-            same("processors()", x::processors, () -> m.h);
-            same("room()", x::room, m::room);
-            same("sent()", x::sent, () -> m.out.size());
+        private void count() {
+            switch (random.nextInt(4)) {
+                case 0: same("processors()", x::processors, () -> m.h); break;
+                case 1: same("room()", x::room, m::room); break;
+                case 2: same("sent()", x::sent, () -> m.out.size()); break;
+                default: out(random.nextInt(4) == 0 ? odd() : random.nextInt(40)); break;
+            }
+        }
+
+        private void out(long k) {
             same("out(" + k + ")", () -> x.out(k), () -> k >= 0 && k < m.out.size() ? m.out.get((int) k) : -1);
         }
 
