@@ -14,8 +14,25 @@ final class Checks {
 
     private static int asked = 0;
     private static int wrong = 0;
+    /** Stands before each wrong answer, so that it tells which sentence of the document is broken. */
+    private static String where = "";
 
     private Checks() {
+    }
+
+    /** One sentence of the document, given by its words, with a test of its own. */
+    static void sentence(String words, Runnable test) {
+        int before = asked;
+        where = "\"" + words + "\" ";
+        try {
+            test.run();
+        } catch (RuntimeException e) {
+            tell("ended with " + e);
+        }
+        if (asked == before) {
+            tell("asked nothing");
+        }
+        where = "";
     }
 
     static void same(String what, long got, long due) {
@@ -46,7 +63,7 @@ final class Checks {
     private static void tell(String text) {
         wrong++;
         if (wrong <= MOST_SHOWN) {
-            System.out.println(text);
+            System.out.println(where + text);
         }
     }
 
